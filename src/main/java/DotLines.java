@@ -402,7 +402,7 @@ public final class DotLines {
     /** The INPUT and the lines that come out of it. */
     private static final class Reader {
         private static final int LINE = 1;
-        private static final int END = 0;
+        private static final int PICTURE_ENDS = 0;
         private static final int BITS_END = -1;
         private static final int NO_WORD = -2;
         private static final int PASS_TO_WIDTH = -3;
@@ -457,7 +457,8 @@ public final class DotLines {
         private int readSteps() {
             int word = take(WordTree.LINE_BEGINS);
             if (word == Words.END) {
-                return Math.min(take(WordTree.END_ALONE), END);
+                int second = take(WordTree.END_ALONE);
+                return second < 0 ? second : PICTURE_ENDS;
             }
             // Each step goes at least one dot to the right.
             for (int n = 0; n <= width && word >= 0; n++) {
