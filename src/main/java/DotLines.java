@@ -441,7 +441,6 @@ public final class DotLines {
             if (answer != LINE) {
                 return answer;
             }
-            fresh.whiten();
             spot.begin(above);
             answer = readSteps();
             if (answer == LINE) {

@@ -1,567 +1,922 @@
-/** Each promise of the document by its number: ordinary inputs, the edges that it names, wrong inputs. */
-public final class PromisesTest {
-    private static final String END = "000000000001";
-    private static int wrong = 0;
-    private static int promise;
+/** The sentences of promises 1 to 15, each with a test named by its promise: ordinary inputs, edges, wrong inputs. */
+public final class PromisesTest extends Check {
+    /** Ints of which a multiple by 8 or 64 wraps round to what might look like a fine one. */
+    private static final int[] WRAPS = {1 << 25, 1 << 26, 1 << 28, 1 << 29, 1 << 30, (1 << 26) + 1, (1 << 29) + 1,
+        -(1 << 26), -(1 << 29), LEAST + 1, GREATEST - 1};
 
-    private static void due(String what, long got, long want) {
-        if (got != want) {
-            wrong++;
-            System.out.println("promise " + promise + ": " + what + " answered " + got + ", due is " + want);
-        }
+    public static void main(String[] args) throws Exception {
+        runTests(PromisesTest.class);
     }
 
-    private static void due(String what, boolean got, boolean want) {
-        due(what, got ? 1 : 0, want ? 1 : 0);
-    }
+    // Promise 1: a new object
 
-    private static void due(String what, String got, String want) {
-        if (!got.equals(want)) {
-            wrong++;
-            System.out.println("promise " + promise + ": " + what + " answered " + got + ", due is " + want);
-        }
-    }
-
-    private static final int THROWS = Integer.MIN_VALUE;
-
-    private static int code(DotLines x) {
-        try {
-            return x.code();
-        } catch (IllegalStateException e) {
-            return THROWS;
-        }
-    }
-
-    private static int close(DotLines x) {
-        try {
-            return x.close();
-        } catch (IllegalStateException e) {
-            return THROWS;
-        }
-    }
-
-    private static int turn(DotLines x, int n) {
-        try {
-            return x.turn(n);
-        } catch (IllegalArgumentException e) {
-            return THROWS;
-        }
-    }
-
-    private static int black(DotLines x, int i) {
-        try {
-            return x.black(i) ? 1 : 0;
-        } catch (IndexOutOfBoundsException e) {
-            return THROWS;
-        }
-    }
-
-    /** The OUTPUT's bits from one on. */
-    private static String bits(DotLines x, int from) {
-        StringBuilder bits = new StringBuilder();
-        for (int i = from; i < x.look(1); i++) {
-            bits.append(x.out(i / 64) >>> (63 - i % 64) & 1);
-        }
-        return bits.toString();
-    }
-
-    /** The bits, without the gaps and filled with 0s to whole bytes, as the INPUT of a new object. */
-    private static DotLines given(int width, String text) {
-        DotLines x = new DotLines(width);
-        giveBits(x, text);
-        return x;
-    }
-
-    private static void giveBits(DotLines x, String text) {
-        String bits = text.replace(" ", "");
-        for (int i = 0; i < bits.length(); i += 8) {
-            x.give(Integer.parseInt((bits.substring(i) + "0000000").substring(0, 8), 2), 1);
-        }
-    }
-
-    private static DotLines painted(int width, int... fromAndN) {
-        DotLines x = new DotLines(width);
-        paintAll(x, fromAndN);
-        return x;
-    }
-
-    private static void paintAll(DotLines x, int... fromAndN) {
-        for (int i = 0; i < fromAndN.length; i += 2) {
-            due("paint(" + fromAndN[i] + ", " + fromAndN[i + 1] + ", true)", x.paint(fromAndN[i], fromAndN[i + 1], true), true);
-        }
-    }
-
-    /** The bits of a line below another one. */
-    private static String coded(int width, int[] above, int[] line) {
-        DotLines x = painted(width, above);
-        int before = code(x);
-        paintAll(x, line);
-        int took = code(x);
-        due("how many bits code() took", took, x.look(1) - before);
-        return bits(x, before);
-    }
-
-    /** What read() answers and where it stands then, for bits that begin the INPUT. */
-    private static void reads(int width, String text, int answer, int at) {
-        DotLines x = given(width, text);
-        due("read() of " + text, x.read(), answer);
-        due("look(9) behind read() of " + text, x.look(9), at);
-    }
-
-    private static int[] dots(int... fromAndN) {
-        return fromAndN;
-    }
-
-    private static void newObject() {
-        promise = 1;
-        int[] asked = {24, 1, 10000, 0, -1, Integer.MIN_VALUE, 10001, Integer.MAX_VALUE};
-        int[] widths = {24, 1, 10000, 1, 1, 1, 10000, 10000};
+    @Sentence("The WIDTH is width, but at least 1 and at most 10000.")
+    private static void promise01WidthIsAtLeast1() {
+        int[] asked = {2, 1, 0, -1, LEAST};
+        int[] widths = {2, 1, 1, 1, 1};
         for (int i = 0; i < asked.length; i++) {
-            DotLines x = new DotLines(asked[i]);
-            due("WIDTH for " + asked[i], x.look(0), widths[i]);
-            due("last dot", x.paint(widths[i] - 1, 1, true), true);
-            due("dot behind the last", x.paint(widths[i], 1, true), false);
-            for (int which = 1; which < 10; which++) {
-                due("look(" + which + ") of a new object", x.look(which), 0);
-            }
-            due("out(0) of a new object", x.out(0), 0);
-            due("dots(0) of a new object", x.dots(0), 0);
-            due("read() of a new object", x.read(), -1);
+            hasWidth(new DotLines(asked[i]), widths[i]);
         }
+    }
+
+    @Sentence("The WIDTH is width, but at least 1 and at most 10000.")
+    private static void promise01WidthIsAtMost10000() {
+        int[] asked = {24, 9999, 10000, 10001, GREATEST};
+        int[] widths = {24, 9999, 10000, 10000, 10000};
+        for (int i = 0; i < asked.length; i++) {
+            hasWidth(new DotLines(asked[i]), widths[i]);
+        }
+    }
+
+    private static void hasWidth(DotLines x, int width) {
+        due("look(0)", x.look(0), width);
+        due("paint() of the last dot", x.paint(width - 1, 1, true), true);
+        due("paint() of one dot more", x.paint(width, 1, true), false);
+        due("black() of the last dot", black(x, width - 1), 0);
+        due("black() of one dot more", black(x, width), THROWS);
+        code(x);
+        turn(x, 0);
+        due("read()", x.read(), 1);
+        due("black() of the last dot when read", black(x, width - 1), 1);
+        due("change(0)", x.change(0), width - 1);
+    }
+
+    @Sentence("OUTPUT and INPUT are empty.")
+    private static void promise01OutputAndInputAreEmpty() {
+        for (int width : new int[] {1, 10, 64, 10000}) {
+            DotLines x = new DotLines(width);
+            for (int which = 1; which < 10; which++) {
+                due("look(" + which + ")", x.look(which), 0);
+            }
+            due("out(0)", x.out(0), 0);
+            due("turn(1)", turn(x, 1), THROWS);
+            due("turn(0)", turn(x, 0), 0);
+            due("read()", x.read(), -1);
+            due("look(9)", x.look(9), 0);
+        }
+    }
+
+    @Sentence("`NONE = -1`: There is none.")
+    private static void promise01None() {
         due("NONE", DotLines.NONE, -1);
     }
 
-    private static void paint() {
-        promise = 2;
-        DotLines x = new DotLines(20);
-        int[][] refused = {{-1, 2}, {0, 0}, {0, -1}, {20, 1}, {19, 2}, {0, 21}, {1, Integer.MAX_VALUE}, {20, 0},
-            {Integer.MAX_VALUE, Integer.MAX_VALUE}, {Integer.MAX_VALUE, 1}, {Integer.MIN_VALUE, 1}, {5, Integer.MIN_VALUE},
-            {Integer.MIN_VALUE, Integer.MIN_VALUE}, {-5, 30}};
-        for (int[] r : refused) {
-            due("paint(" + r[0] + ", " + r[1] + ", true)", x.paint(r[0], r[1], true), false);
-        }
-        due("code() of a line in which nothing was painted", code(x), 1);
-        due("paint(0, 20, true)", x.paint(0, 20, true), true);
-        due("paint(4, 3, false)", x.paint(4, 3, false), true);
-        due("paint(19, 1, false)", x.paint(19, 1, false), true);
-        due("paint(18, 3, false)", x.paint(18, 3, false), false);
-        code(x);
-        turn(x, 0);
-        x.read();
-        x.read();
-        due("dots(0)", x.dots(0), 0b1111_000_111111111111_0L << 44);
-        DotLines wide = painted(200, 60, 10, 120, 80);
-        code(wide);
-        turn(wide, 0);
-        wide.read();
-        due("dots(0)", wide.dots(0), 0xFL);
-        due("dots(1)", wide.dots(1), 0x3FL << 58 | 0xFF);
-        due("dots(2)", wide.dots(2), -1L);
-        due("dots(3)", wide.dots(3), 0xFFL << 56);
-    }
+    // Promise 2: paint
 
-    private static DotLines codedOnce(int width, int... fromAndN) {
-        DotLines x = painted(width, fromAndN);
-        code(x);
-        return x;
-    }
-
-    private static void codeSteps() {
-        promise = 3;
-        due("first line", bits(codedOnce(20, 10, 5), 0), "001" + "00111" + "0011" + "1");
-        String[] shifts = {"0000010", "000010", "010", "1", "011", "000011", "0000011"};
-        for (int s = -3; s <= 3; s++) {
-            due("SHIFT to black by " + s, coded(20, dots(10, 5), dots(10 + s, 5 - s)), shifts[s + 3] + "1" + "1");
-            due("SHIFT to white by " + s, coded(20, dots(10, 5), dots(10, 5 + s)), "1" + shifts[s + 3] + "1");
-        }
-        due("4 to the right", coded(20, dots(10, 5), dots(14, 1)), "001" + "110100" + "010" + "1");
-        due("4 to the left", coded(20, dots(10, 5), dots(6, 9)), "001" + "1110" + "000100" + "1");
-        due("PASS", coded(20, dots(5, 3), dots()), "0001" + "1");
-        due("b2 is right of a1", coded(20, dots(5, 3), dots(0, 20)), "001" + "00110101" + "00001101000");
-        due("b2 is a1", coded(20, dots(5, 3), dots(8, 4)), "0000011" + "001" + "011" + "10011");
-        due("a first dot that is black", coded(20, dots(0, 1), dots(0, 1)), "1" + "1" + "1");
-        due("SHIFT to 0", coded(20, dots(1, 2), dots(0, 3)), "010" + "1" + "1");
-        due("a white line", coded(10000, dots(), dots()), "1");
-        due("a line of 1", coded(1, dots(), dots(0, 1)), "010" + "1");
-    }
-
-    private static void codeRuns() {
-        promise = 3;
-        due("white 0, black 5120", bits(codedOnce(8000, 0, 5120), 3),
-            "00110101" + "000000011111" + "000000011111" + "0000110111" + "1");
-        due("white 2559, black 2559", bits(codedOnce(9000, 2559, 2559), 3),
-            "000000011110" + "00110100" + "000000011110" + "000001100111" + "1");
-        due("white 2560, black 2560", bits(codedOnce(9000, 2560, 2560), 3),
-            "000000011111" + "00110101" + "000000011111" + "0000110111" + "1");
-        due("white 63, black 64", bits(codedOnce(9000, 63, 64), 3), "00110100" + "0000001111" + "0000110111" + "1");
-        due("white 64, black 63", bits(codedOnce(9000, 64, 63), 3), "11011" + "00110101" + "000001100111" + "1");
-        due("white 1728, black 1792", bits(codedOnce(9000, 1728, 1792), 3),
-            "010011011" + "00110101" + "00000001000" + "0000110111" + "1");
-        due("white 1, black 9999", bits(codedOnce(10000, 1, 9999), 3),
-            "000111" + "000000011111".repeat(3) + "000000010111" + "000011000");
-    }
-
-    private static void codeRefused() {
-        promise = 3;
-        DotLines x = codedOnce(10, 3, 4);
-        close(x);
-        int bits = x.look(1);
-        due("code() when closed", code(x), THROWS);
-        due("lines coded", x.look(5), 1);
-        due("bits", x.look(1), bits);
-        DotLines full = filled(524287);
-        int passes = full.look(6);
-        int lines = full.look(5);
-        paintAll(full, 5000, 1);
-        due("code() without room", code(full), THROWS);
-        due("bits after it", full.look(1), 524287);
-        due("last part after it", full.out(8191), -2L);
-        due("lines after it", full.look(5), lines);
-        due("words after it", full.look(6), passes);
-        due("words after it", full.look(8), filled(524287).look(8));
-        due("the line is still being made", full.paint(5000, 1, false), true);
-        due("code() up to the last bit", code(full), 1);
-        due("bits then", full.look(1), 524288);
-        due("last part then", full.out(8191), -1L);
-        due("code() of one bit more", code(full), THROWS);
-    }
-
-    /** An OUTPUT of that many bits, white lines being its last ones (this takes more calls than are promised). */
-    private static DotLines filled(int bits) {
-        DotLines x = new DotLines(10000);
-        for (int n = 0; n < 6; n++) {
-            for (int i = 0; i < 10000; i += 2) {
-                x.paint(i, 1, true);
+    @Sentence("In the line that is being made (white at first) n dots from a place on become black, or white: true;")
+    private static void promise02DotsBecomeBlackOrWhite() {
+        due("nothing painted", madeBy(20), "....................");
+        due("black", madeBy(20, 3, 5, 1), "...#####............");
+        due("all", madeBy(20, 0, 20, 1), "####################");
+        due("the first dot", madeBy(20, 0, 1, 1), "#...................");
+        due("the last dot", madeBy(20, 19, 1, 1), "...................#");
+        due("white in black", madeBy(20, 0, 20, 1, 4, 3, 0, 19, 1, 0, 0, 1, 0), ".###...############.");
+        due("black on black, white on white", madeBy(20, 2, 5, 1, 4, 5, 1, 15, 2, 0), "..#######...........");
+        due("a dot of one", madeBy(1, 0, 1, 1), "#");
+        due("a dot of one, white again", madeBy(1, 0, 1, 1, 0, 1, 0), ".");
+        int[] edges = {0, 1, 62, 63, 64, 65, 126, 127, 128, 129, 191, 192, 199};
+        for (int from : edges) {
+            for (int last : edges) {
+                if (last >= from) {
+                    String want = blackFromTo(200, from, last + 1);
+                    due("black from " + from + " to " + last, madeBy(200, from, last - from + 1, 1), want);
+                    due("white from " + from + " to " + last, madeBy(200, 0, 200, 1, from, last - from + 1, 0),
+                        want.replace('.', '-').replace('#', '.').replace('-', '#'));
+                }
             }
-            code(x);
-            code(x);
         }
-        while (x.look(1) < bits) {
-            code(x);
-        }
-        due("bits", x.look(1), bits);
-        return x;
     }
 
-    private static void closeOutput() {
-        promise = 4;
-        DotLines empty = new DotLines(7);
-        due("close() of nothing", close(empty), 3);
-        due("its bits", bits(empty, 0), END + END);
-        due("closed", empty.look(2), 1);
-        due("close() again", close(empty), THROWS);
-        due("bits after it", empty.look(1), 24);
-        DotLines x = new DotLines(7);
+    /** The line that has been painted so (from, n, 1 for black), as it is read again. */
+    private static String madeBy(int width, int... paints) {
+        DotLines x = new DotLines(width);
+        for (int i = 0; i < paints.length; i += 3) {
+            due("paint(" + paints[i] + ", " + paints[i + 1] + ")", x.paint(paints[i], paints[i + 1], paints[i + 2] == 1), true);
+        }
         code(x);
-        due("close() behind one bit", close(x), 4);
-        due("its bits", bits(x, 0), "1" + END + END + "0000000");
-        due("lines coded", x.look(5), 1);
-        DotLines full = filled(524288 - 24);
-        due("close() up to the last bit", close(full), 65536);
-        due("last part", full.out(8191), -1L << 24 | 0x001001);
-        DotLines over = filled(524288 - 23);
-        due("close() without room", close(over), THROWS);
-        due("bits after it", over.look(1), 524288 - 23);
-        due("not closed", over.look(2), 0);
-        due("last part", over.out(8191), -1L << 23);
-    }
-
-    private static void clearOutput() {
-        promise = 5;
-        DotLines x = codedOnce(10, 3, 4);
-        paintAll(x, 1, 1);
-        code(x);
-        close(x);
         turn(x, 0);
-        x.read();
-        paintAll(x, 0, 2);
+        due("read()", x.read(), 1);
+        return row(x);
+    }
+
+    @Sentence("false if they are not all in it, or n is less than 1.")
+    private static void promise02FalseIfNotAllInIt() {
+        int[][] fine = {{0, 1}, {0, 20}, {1, 19}, {19, 1}};
+        int[][] not = {{-1, 1}, {-1, 2}, {-5, 30}, {LEAST, 1}, {LEAST, 20}, {LEAST, GREATEST}, {-1, GREATEST}, {0, 21},
+            {0, GREATEST}, {1, 20}, {1, GREATEST}, {19, 2}, {19, GREATEST}, {20, 1}, {21, 1}, {20, GREATEST},
+            {GREATEST, 1}, {GREATEST, 2}, {GREATEST, GREATEST}};
+        paints(fine, true);
+        paints(not, false);
+    }
+
+    @Sentence("false if they are not all in it, or n is less than 1.")
+    private static void promise02FalseIfNIsLessThan1() {
+        int[][] not = {{0, 0}, {0, -1}, {0, LEAST}, {5, 0}, {5, -1}, {5, -5}, {5, LEAST}, {19, 0}, {20, 0}, {20, -1},
+            {21, -1}, {-1, 0}, {-1, -1}, {LEAST, 0}, {LEAST, LEAST}, {GREATEST, 0}, {GREATEST, LEAST}, {GREATEST, -GREATEST}};
+        paints(not, false);
+    }
+
+    private static void paints(int[][] all, boolean answer) {
+        for (int[] p : all) {
+            for (boolean black : new boolean[] {true, false}) {
+                DotLines x = new DotLines(20);
+                due("paint(" + p[0] + ", " + p[1] + ", " + black + ")", x.paint(p[0], p[1], black), answer);
+                code(x);
+                due("a white line then", x.out(0) == 1L << 63 && x.look(1) == 1, !answer || !black);
+            }
+        }
+    }
+
+    // Promise 3: code
+
+    @Sentence("That line is CODED behind the OUTPUT; it is the line above then, and the next one is white: how many bits it took.")
+    private static void promise03LineIsCoded() {
+        DotLines x = new DotLines(20);
+        paintRow(x, "..........#####.....");
+        due("code() of the first line", code(x), 13);
+        due("code() of a white line below it", code(x), 5);
+        due("code() of a white line below that", code(x), 1);
+        paintRow(x, "...................#");
+        due("code() of one more", code(x), 4);
+        paintRow(x, "...................#");
+        due("code() of the same again", code(x), 2);
+        dueBits("OUTPUT", bits(x, 0), "001 00111 0011 1" + "0001 1" + "1" + "010 1" + "1 1");
+        due("lines", x.look(5), 5);
+    }
+
+    @Sentence("how many bits it took.")
+    private static void promise03HowManyBits() {
+        DotLines x = new DotLines(10000);
+        due("the fewest", code(x), 1);
+        for (int i = 0; i < 100; i++) {
+            x.paint(100 * i + 10, 50, true);
+        }
+        int want = 3 + 5 + 12 + 99 * (3 + 8 + 12) + 1;
+        due("many", code(x), want);
+        due("look(1)", x.look(1), 1 + want);
+        due("a white line below them", code(x), 100 * 4 + 1);
+    }
+
+    @Sentence("IllegalStateException if the OUTPUT is closed, or would have more than 524288 bits.")
+    private static void promise03ThrowsIfClosed() {
+        DotLines x = withCoded("...###....");
+        close(x);
+        due("code()", code(x), THROWS);
+        due("code() again", code(x), THROWS);
+        x.clear();
+        due("code() when it is closed no more", code(x), 1);
+        DotLines empty = new DotLines(10);
+        close(empty);
+        due("code() when closed without a line", code(empty), THROWS);
+        DotLines full = filled(MOST_BITS - 24);
+        close(full);
+        due("code() when closed and full", code(full), THROWS);
+    }
+
+    @Sentence("IllegalStateException if the OUTPUT is closed, or would have more than 524288 bits.")
+    private static void promise03ThrowsBeyond524288Bits() {
+        DotLines x = filled(MOST_BITS - 1);
+        due("code() of the last bit", code(x), 1);
+        due("look(1)", x.look(1), MOST_BITS);
+        due("the last part", x.out(8191), -1);
+        due("code() of one bit more", code(x), THROWS);
+        x.clear();
+        due("code() when it is empty again", code(x), 1);
+        int need = 3 + Tables.run(5000, false).length() + 3 + 1;
+        for (int room = 0; room <= need + 1; room++) {
+            DotLines near = filled(MOST_BITS - room);
+            near.paint(5000, 1, true);
+            due("code() of " + need + " bits where " + room + " have room", code(near), room < need ? THROWS : need);
+            due("look(1)", near.look(1), MOST_BITS - room + (room < need ? 0 : need));
+        }
+    }
+
+    @Sentence("That line is CODED behind the OUTPUT;")
+    private static void promise03CodedIntoTheLastPart() {
+        DotLines like = new DotLines(10000);
+        like.paint(5000, 1, true);
+        int need = code(like);
+        for (int room = 64; room <= 64 + need; room++) {
+            DotLines x = filled(MOST_BITS - room);
+            x.paint(5000, 1, true);
+            due("code() where " + room + " bits have room", code(x), need);
+            due("its bits", bits(x, MOST_BITS - room), bits(like, 0));
+        }
+    }
+
+    // Promise 4: close
+
+    @Sentence("Two ENDs and as many 0s as fill the last byte come behind the OUTPUT, and it is closed: how many bytes it has.")
+    private static void promise04TwoEndsAnd0sFillTheLastByte() {
+        for (int n = 0; n <= 17; n++) {
+            DotLines x = new DotLines(10);
+            for (int i = 0; i < n; i++) {
+                code(x);
+            }
+            int fill = (8 - n % 8) % 8;
+            due("close() behind " + n + " bits", close(x), (n + 24 + fill) / 8);
+            dueBits("OUTPUT", bits(x, 0), "1".repeat(n) + END + END + "0".repeat(fill));
+            due("look(1)", x.look(1), n + 24 + fill);
+            due("look(2)", x.look(2), 1);
+            due("look(5)", x.look(5), n);
+        }
+    }
+
+    @Sentence("IllegalStateException as for code().")
+    private static void promise04ThrowsIfClosed() {
+        DotLines x = new DotLines(10);
+        due("close() of nothing", close(x), 3);
+        due("close() again", close(x), THROWS);
+        due("close() once more", close(x), THROWS);
+        due("look(1)", x.look(1), 24);
+        x.clear();
+        due("close() when it is closed no more", close(x), 3);
+    }
+
+    @Sentence("IllegalStateException as for code().")
+    private static void promise04ThrowsBeyond524288Bits() {
+        DotLines fits = filled(MOST_BITS - 24);
+        due("close() up to the last bit", close(fits), MOST_BYTES);
+        due("look(1)", fits.look(1), MOST_BITS);
+        due("the last part", fits.out(8191), -1L << 24 | 0x001001);
+        for (int room : new int[] {23, 22, 17, 16, 12, 11, 8, 1, 0}) {
+            DotLines x = filled(MOST_BITS - room);
+            due("close() where " + room + " bits have room", close(x), THROWS);
+            due("look(2)", x.look(2), 0);
+        }
+        for (int before = 25; before <= 32; before++) {
+            due("close() with 0s, " + before + " bits ahead of the last", close(filled(MOST_BITS - before)),
+                before < 32 ? MOST_BYTES : MOST_BYTES - 1);
+        }
+    }
+
+    // Promise 5: clear
+
+    @Sentence("The OUTPUT is empty and not closed, the line that is being made and the one above are white.")
+    private static void promise05OutputIsEmptyAndNotClosed() {
+        DotLines x = withCoded("...###....", ".#........");
+        close(x);
         x.clear();
         for (int which : new int[] {1, 2, 5, 6, 7, 8}) {
             due("look(" + which + ")", x.look(which), 0);
         }
         due("out(0)", x.out(0), 0);
-        due("INPUT stays", x.look(3), 7);
-        due("reading goes on", x.look(4), 1);
-        due("line read last", x.dots(0), 0b1111L << 57);
-        due("code() of white below white", code(x), 1);
+        due("turn(1)", turn(x, 1), THROWS);
+        due("code()", code(x), 1);
         due("out(0) then", x.out(0), 1L << 63);
+        DotLines fresh = new DotLines(10);
+        fresh.clear();
+        due("look(1) of what was empty", fresh.look(1), 0);
+        due("close() of it", close(fresh), 3);
+        fresh.clear();
+        fresh.clear();
+        due("look(2) when cleared twice", fresh.look(2), 0);
+        DotLines full = filled(MOST_BITS);
+        full.clear();
+        due("look(1) of what was full", full.look(1), 0);
+        for (int k = 0; k < 8192; k++) {
+            due("out(" + k + ") of what was full", full.out(k), 0);
+        }
+        due("close() of what was full", close(full), 3);
+        due("out(0)", full.out(0), 0x001001L << 40);
     }
 
-    private static void outParts() {
-        promise = 6;
-        DotLines x = codedOnce(9000, 2559, 2559);
-        code(x);
-        String bits = bits(x, 0);
-        due("bits", bits, "001" + "000000011110" + "00110100" + "000000011110" + "000001100111" + "1" + "0001" + "1");
-        due("out(0)", x.out(0), Long.parseLong(bits, 2) << (64 - bits.length()));
+    @Sentence("The OUTPUT is empty and not closed, the line that is being made and the one above are white.")
+    private static void promise05NoBitIsLeft() {
+        for (int n = 1; n <= 130; n++) {
+            DotLines x = new DotLines(10);
+            for (int i = 0; i < n; i++) {
+                code(x);
+            }
+            x.clear();
+            for (int k = 0; k <= 3; k++) {
+                due("out(" + k + ") of what had " + n + " bits", x.out(k), 0);
+            }
+            close(x);
+            due("out(0) when closed", x.out(0), 0x001001L << 40);
+            due("out(1) when closed", x.out(1), 0);
+        }
+    }
+
+    @Sentence("the line that is being made and the one above are white.")
+    private static void promise05LinesAreWhite() {
+        DotLines made = new DotLines(10);
+        paintRow(made, "...###....");
+        made.clear();
+        due("code() of what was painted", code(made), 1);
+        DotLines above = withCoded("...###....");
+        above.clear();
+        due("code() below what was coded", code(above), 1);
+        DotLines both = withCoded("...###....");
+        paintRow(both, ".#......#.");
+        both.clear();
+        due("code() of the first", code(both), 1);
+        due("code() of the second", code(both), 1);
+    }
+
+    @Sentence("The OUTPUT is empty and not closed, the line that is being made and the one above are white.")
+    private static void promise05InputAndReadingStay() {
+        DotLines x = withCoded("...###....", "...####...");
+        close(x);
+        turn(x, 0);
+        x.read();
+        x.clear();
+        due("look(3)", x.look(3), 5);
+        due("look(4)", x.look(4), 1);
+        due("look(9)", x.look(9), 10);
+        due("the line read last", row(x), "...###....");
+        due("read() of the line below it", x.read(), 1);
+        due("the line", row(x), "...####...");
+    }
+
+    // Promise 6: out
+
+    @Sentence("The eight bytes 8 * k .. 8 * k + 7 of the OUTPUT, the first one highest (0s behind its last bit); 0 if there are none.")
+    private static void promise06EightBytesTheFirstHighest() {
+        DotLines x = withCoded(blackFromTo(9000, 2559, 5118), ".".repeat(9000));
+        String bits = "001 000000011110 00110100 000000011110 000001100111 1 0001 1".replace(" ", "");
+        due("out(0), 53 bits", x.out(0), Long.parseLong(bits, 2) << (64 - bits.length()));
         due("out(1), none", x.out(1), 0);
-        paintAll(x, 2559, 2559);
+        x.paint(2559, 2559, true);
         code(x);
-        due("out(0), full", x.out(0), Long.parseLong(bits + "001" + "00000001", 2));
-        due("out(1), behind it", x.out(1) >>> 32, Long.parseLong("1110" + "00110100" + "000000011110" + "00000110", 2));
-        for (int k : new int[] {-1, 2, 8191, 8192, 1 << 26, 1 << 29, Integer.MAX_VALUE, Integer.MIN_VALUE, -(1 << 29)}) {
-            due("out(" + k + ")", x.out(k), 0);
+        due("out(0), 64 bits", x.out(0), Long.parseLong(bits + "00100000001", 2));
+        due("out(1), 37 bits", x.out(1), Long.parseLong("1110" + "00110100" + "000000011110" + "000001100111" + "1", 2) << 27);
+        due("out(2), none", x.out(2), 0);
+    }
+
+    @Sentence("(0s behind its last bit); 0 if there are none.")
+    private static void promise06ZerosBehindTheLastBit() {
+        DotLines x = new DotLines(10);
+        for (int n = 1; n <= 130; n++) {
+            code(x);
+            due("out(0) of " + n + " bits", x.out(0), n >= 64 ? -1 : -1L << (64 - n));
+            due("out(1) of " + n + " bits", x.out(1), n >= 128 ? -1 : n <= 64 ? 0 : -1L << (128 - n));
+            due("out(2) of " + n + " bits", x.out(2), n <= 128 ? 0 : -1L << (192 - n));
         }
     }
 
-    private static void give() {
-        promise = 7;
+    @Sentence("0 if there are none.")
+    private static void promise06ZeroIfThereAreNone() {
         DotLines x = new DotLines(10);
-        for (int n : new int[] {0, 9, -1, Integer.MIN_VALUE, Integer.MAX_VALUE}) {
-            due("give(1, " + n + ")", x.give(1, n), false);
-        }
-        due("bytes", x.look(3), 0);
-        due("give(.., 3)", x.give(0xFFFFFFFFFF001001L, 3), true);
-        due("bytes", x.look(3), 3);
-        due("read() of two ENDs", x.read(), 0);
-        x.wipe();
-        due("give(.., 1)", x.give(0x7700, 1), true);
-        due("give(.., 8)", x.give(0x1001FFFFFFFFFFFFL, 8), true);
-        due("bytes", x.look(3), 9);
-        due("read() of two ENDs", x.read(), 0);
-        DotLines full = new DotLines(10);
-        // more calls than are promised
-        for (int i = 0; i < 8191; i++) {
-            full.give(-1, 8);
-        }
-        due("give(.., 4)", full.give(-1, 4), true);
-        due("give(.., 5) without room", full.give(-1, 5), false);
-        due("bytes", full.look(3), 65532);
-        due("give(.., 4) up to the last byte", full.give(-1, 4), true);
-        due("give(.., 1) without room", full.give(-1, 1), false);
-        due("bytes", full.look(3), 65536);
-        due("read()", full.read(), 1);
-    }
-
-    private static void turnOver() {
-        promise = 8;
-        DotLines x = new DotLines(10);
-        due("turn(0) of nothing", turn(x, 0), 0);
-        due("turn(1) of nothing", turn(x, 1), THROWS);
-        paintAll(x, 3, 4);
-        code(x);
-        for (int i = 0; i < 70; i++) {
+        due("out(0) of nothing", x.out(0), 0);
+        for (int i = 0; i < 128; i++) {
             code(x);
         }
+        for (int k : new int[] {LEAST, -8192, -2, -1, 2, 3, 8191, 8192, 8193, GREATEST}) {
+            due("out(" + k + ")", x.out(k), 0);
+        }
+        for (int k : WRAPS) {
+            due("out(" + k + ")", x.out(k), 0);
+        }
+        DotLines full = filled(MOST_BITS);
+        due("out(8191) when full", full.out(8191), -1);
+        for (int k : new int[] {LEAST, -1, 8192, GREATEST}) {
+            due("out(" + k + ") when full", full.out(k), 0);
+        }
+        for (int k : WRAPS) {
+            due("out(" + k + ") when full", full.out(k), 0);
+        }
+    }
+
+    // Promise 7: give
+
+    @Sentence("The n lowest bytes of part, the highest of them first, come behind the INPUT: true;")
+    private static void promise07LowestBytesTheHighestFirst() {
+        String[] rows = {"..####..#...##.#....", ".#..####....#....###", "#.#.#.#.............", "....................",
+            "####.####.####.####.", "...................#"};
+        DotLines coded = withCoded(rows);
+        int bytes = close(coded);
+        for (int n = 1; n <= 8; n++) {
+            DotLines x = new DotLines(20);
+            for (int i = 0; i < bytes; i += n) {
+                // What stands in the part above its n lowest bytes must not count.
+                long part = -1;
+                for (int k = i; k < i + n; k++) {
+                    part = part << 8 | (coded.out(k / 8) >>> (56 - 8 * (k % 8)) & 0xFF);
+                }
+                due("give(" + part + ", " + n + ")", x.give(part, n), true);
+                due("look(3)", x.look(3), i + n);
+            }
+            for (String row : rows) {
+                due("read() of what came " + n + " bytes at a time", x.read(), 1);
+                due("the line", row(x), row);
+            }
+            due("read()", x.read(), 0);
+        }
+        DotLines ends = new DotLines(10);
+        due("give(.., 3)", ends.give(0xFFFFFFFFFF001001L, 3), true);
+        due("read() of two ENDs", ends.read(), 0);
+        DotLines two = new DotLines(10);
+        due("give(.., 1)", two.give(0x7700, 1), true);
+        due("give(.., 8)", two.give(0x1001FFFFFFFFFFFFL, 8), true);
+        due("look(3)", two.look(3), 9);
+        due("read() of two ENDs", two.read(), 0);
+    }
+
+    @Sentence("The n lowest bytes of part, the highest of them first, come behind the INPUT: true;")
+    private static void promise07LeastAndGreatestPart() {
+        DotLines least = new DotLines(10);
+        due("give(least, 8)", least.give(Long.MIN_VALUE, 8), true);
+        due("read() of 1000..", least.read(), 1);
+        due("read() of 000..", least.read(), -2);
+        due("look(9)", least.look(9), 1);
+        DotLines greatest = new DotLines(10);
+        due("give(greatest, 8)", greatest.give(Long.MAX_VALUE, 8), true);
+        due("read() of 0111..", greatest.read(), -4);
+        DotLines low = new DotLines(10);
+        due("give(greatest, 7)", low.give(Long.MAX_VALUE, 7), true);
+        due("read() of 1111..", low.read(), 1);
+        DotLines none = new DotLines(10);
+        due("give(least, 7)", none.give(Long.MIN_VALUE, 7), true);
+        due("read() of 0000..", none.read(), -2);
+        due("look(3)", none.look(3), 7);
+    }
+
+    @Sentence("false if n is not 1 .. 8, or there is no room.")
+    private static void promise07FalseIfNIsNot1To8() {
+        DotLines x = new DotLines(10);
+        for (int n : new int[] {LEAST, -8, -1, 0, 9, 10, 64, GREATEST}) {
+            due("give(-1, " + n + ")", x.give(-1, n), false);
+        }
+        for (int n : WRAPS) {
+            due("give(-1, " + n + ")", x.give(-1, n), false);
+        }
+        due("look(3)", x.look(3), 0);
+        due("read()", x.read(), -1);
+        due("give(-1, 1)", x.give(-1, 1), true);
+        due("give(-1, 8)", x.give(-1, 8), true);
+        due("look(3)", x.look(3), 9);
+    }
+
+    @Sentence("false if n is not 1 .. 8, or there is no room.")
+    private static void promise07FalseIfThereIsNoRoom() {
+        for (int room = 0; room <= 9; room++) {
+            for (int n = 1; n <= 8; n++) {
+                DotLines x = fed(MOST_BYTES - room);
+                due("give() of " + n + " where " + room + " have room", x.give(-1, n), n <= room);
+                due("look(3)", x.look(3), MOST_BYTES - room + (n <= room ? n : 0));
+            }
+        }
+        DotLines full = fed(MOST_BYTES);
+        due("give() when full", full.give(0, 1), false);
+        due("read() when full", full.read(), 1);
+        full.wipe();
+        due("give() when wiped", full.give(0, 1), true);
+    }
+
+    @Sentence("The n lowest bytes of part, the highest of them first, come behind the INPUT: true;")
+    private static void promise07IntoTheLastBytes() {
+        for (int n : new int[] {1, 4, 7}) {
+            DotLines x = new DotLines(10);
+            x.give(-1, n);
+            for (int i = 0; i < 8190; i++) {
+                x.give(-1, 8);
+            }
+            due("give() ahead of the last one", x.give(-1L << 24 | 0x001001, 8), true);
+            due("give() of the last bytes", x.give(-1, 8 - n), true);
+            due("look(3)", x.look(3), MOST_BYTES);
+            int lines = MOST_BITS - 8 * (8 - n) - 24;
+            for (int i = 0; i < lines; i++) {
+                x.read();
+            }
+            due("look(4)", x.look(4), lines);
+            due("read() of two ENDs", x.read(), 0);
+            due("look(9)", x.look(9), lines + 24);
+        }
+    }
+
+    // Promise 8: turn
+
+    @Sentence("The INPUT becomes a copy of the OUTPUT (its last byte filled with 0s) without its first n bytes: how many bytes it has; reading begins anew.")
+    private static void promise08InputIsACopyOfTheOutput() {
+        DotLines x = withCoded("...###....", "...####...");
+        x.give(-1, 8);
+        x.read();
+        x.read();
+        due("turn(0)", turn(x, 0), 2);
+        due("look(3)", x.look(3), 2);
+        due("look(4)", x.look(4), 0);
+        due("look(9)", x.look(9), 0);
+        due("the line read last", row(x), "..........");
+        due("look(1) stays", x.look(1), 15);
+        x.clear();
+        due("read() behind clear()", x.read(), 1);
+        due("the line", row(x), "...###....");
+        due("read()", x.read(), 1);
+        due("the line", row(x), "...####...");
+        due("turn(0) of nothing", turn(x, 0), 0);
+        due("look(3)", x.look(3), 0);
+        due("read() of nothing", x.read(), -1);
+        due("give() behind it", x.give(0x80, 1), true);
+        due("OUTPUT stays", x.look(1), 0);
+    }
+
+    @Sentence("(its last byte filled with 0s)")
+    private static void promise08LastByteIsFilledWith0s() {
+        for (int n = 1; n <= 17; n++) {
+            DotLines x = new DotLines(10);
+            for (int i = 0; i < n; i++) {
+                code(x);
+            }
+            due("turn(0) of " + n + " bits", turn(x, 0), (n + 7) / 8);
+            x.give(0x01, 1);
+            // 0s up to the byte's end, then seven more and a 1: no word where there are at most 10 0s.
+            for (int i = 0; i < n; i++) {
+                due("read()", x.read(), 1);
+            }
+            int zeros = (8 - n % 8) % 8 + 7;
+            due("read() of " + zeros + " 0s and a 1", x.read(), zeros == 11 ? -1 : -2);
+            due("look(9)", x.look(9), zeros == 11 ? n + 12 : n);
+            due("OUTPUT stays", x.look(1), n);
+        }
+    }
+
+    @Sentence("without its first n bytes: how many bytes it has; reading begins anew.")
+    private static void promise08WithoutItsFirstBytes() {
+        DotLines x = new DotLines(10);
+        for (int i = 0; i < 160; i++) {
+            code(x);
+        }
+        paintRow(x, ".........#");
+        code(x);
+        paintRow(x, "........##");
+        code(x);
         int bytes = (x.look(1) + 7) / 8;
+        due("bytes", bytes, 21);
+        for (int n = 0; n <= 20; n++) {
+            due("turn(" + n + ")", turn(x, n), bytes - n);
+            due("look(3)", x.look(3), bytes - n);
+            for (int i = 8 * n; i < 160; i++) {
+                due("read() of a white line", x.read(), 1);
+            }
+            due("the line", row(x), "..........");
+            due("read()", x.read(), 1);
+            due("the line", row(x), ".........#");
+            due("read()", x.read(), 1);
+            due("the line", row(x), "........##");
+            due("look(4)", x.look(4), 162 - 8 * n);
+        }
+        due("turn() of all", turn(x, bytes), 0);
+        due("look(3)", x.look(3), 0);
+        due("read() of nothing", x.read(), -1);
+    }
+
+    @Sentence("IllegalArgumentException if n is below 0 or more than there are.")
+    private static void promise08ThrowsBelow0OrMoreThanThereAre() {
+        DotLines empty = new DotLines(10);
+        due("turn(0) of nothing", turn(empty, 0), 0);
+        DotLines x = new DotLines(10);
+        for (int bits = 0; bits <= 17; bits++) {
+            int bytes = (bits + 7) / 8;
+            due("turn() of all the bytes of " + bits + " bits", turn(x, bytes), 0);
+            for (int n : new int[] {LEAST, -8, -1, bytes + 1, bytes + 8, GREATEST}) {
+                due("turn(" + n + ") of " + bits + " bits", turn(x, n), THROWS);
+            }
+            code(x);
+        }
+        for (int n : WRAPS) {
+            due("turn(" + n + ")", turn(x, n), THROWS);
+        }
+        close(x);
+        due("turn() of all when closed", turn(x, 6), 0);
+        due("turn() of one more when closed", turn(x, 7), THROWS);
+    }
+
+    @Sentence("The INPUT becomes a copy of the OUTPUT (its last byte filled with 0s) without its first n bytes")
+    private static void promise08OfAFullOutput() {
+        DotLines x = filled(MOST_BITS - 24);
+        close(x);
+        due("turn(0)", turn(x, 0), MOST_BYTES);
+        due("give() behind it", x.give(0, 1), false);
+        due("turn(1)", turn(x, 1), MOST_BYTES - 1);
+        due("give() behind it", x.give(0, 1), true);
+        due("turn(65533)", turn(x, MOST_BYTES - 3), 3);
+        due("read() of two ENDs", x.read(), 0);
+        due("look(9)", x.look(9), 24);
+        due("turn(65534)", turn(x, MOST_BYTES - 2), 2);
+        due("read() of 0001..", x.read(), -3);
+        due("turn(65535)", turn(x, MOST_BYTES - 1), 1);
+        due("turn(65536)", turn(x, MOST_BYTES), 0);
+        due("turn(65537)", turn(x, MOST_BYTES + 1), THROWS);
+    }
+
+    @Sentence("The INPUT becomes a copy of the OUTPUT (its last byte filled with 0s) without its first n bytes")
+    private static void promise08OfEveryByteOfAFullOutput() {
+        DotLines x = new DotLines(10);
+        int lines = MOST_BITS - 24;
+        for (int i = 0; i < lines; i++) {
+            code(x);
+        }
+        due("close()", close(x), MOST_BYTES);
+        for (int n : new int[] {0, 1, 3, 5, 7, 8}) {
+            due("turn(" + n + ")", turn(x, n), MOST_BYTES - n);
+            for (int i = 8 * n; i < lines; i++) {
+                x.read();
+            }
+            due("look(4)", x.look(4), lines - 8 * n);
+            due("read() of two ENDs", x.read(), 0);
+            due("look(9)", x.look(9), MOST_BITS - 8 * n);
+        }
+    }
+
+    // Promise 9: wipe
+
+    @Sentence("The INPUT is empty; reading begins anew.")
+    private static void promise09InputIsEmptyAndReadingBeginsAnew() {
+        DotLines x = below("...###....", "0001 0001");
+        x.read();
+        x.wipe();
+        due("look(3)", x.look(3), 0);
+        due("look(4)", x.look(4), 0);
+        due("look(9)", x.look(9), 0);
+        due("the line read last", row(x), "..........");
+        due("change(-1)", x.change(-1), 0);
+        due("read() of nothing", x.read(), -1);
+        x.wipe();
+        giveBits(x, "0001 1111");
+        due("look(3)", x.look(3), 1);
+        due("read() of a PASS, the line above being white", x.read(), -3);
+        x.wipe();
+        x.wipe();
+        giveBits(x, "1111 1111");
+        due("read() when wiped twice", x.read(), 1);
+    }
+
+    @Sentence("The INPUT is empty; reading begins anew.")
+    private static void promise09OfAnEmptyAndOfAFullInput() {
+        DotLines empty = new DotLines(10);
+        empty.wipe();
+        due("look(3)", empty.look(3), 0);
+        due("read()", empty.read(), -1);
+        DotLines full = fed(MOST_BYTES);
+        full.wipe();
+        due("look(3)", full.look(3), 0);
+        due("read()", full.read(), -1);
+        full.wipe();
+        due("give()", full.give(0, 8), true);
+        due("read() of 0s alone", full.read(), -2);
+        DotLines coded = withCoded("...###....");
+        close(coded);
+        turn(coded, 0);
+        coded.wipe();
+        due("OUTPUT stays", coded.look(1), 40);
+        due("closed stays", coded.look(2), 1);
+    }
+
+    // Promise 10: rewind
+
+    @Sentence("Reading begins anew at the INPUT's first bit, the line above being white; no line has been read.")
+    private static void promise10ReadingBeginsAnew() {
+        DotLines x = given(10, "001 1000 10 1 0001 1" + END + END);
+        for (int round = 0; round < 3; round++) {
+            due("read()", x.read(), 1);
+            due("the line", row(x), "...###....");
+            due("read()", x.read(), 1);
+            due("the line", row(x), "..........");
+            due("read()", x.read(), 0);
+            due("look(4)", x.look(4), 2);
+            x.rewind();
+            due("look(4)", x.look(4), 0);
+            due("look(9)", x.look(9), 0);
+            due("look(3)", x.look(3), 5);
+        }
+    }
+
+    @Sentence("the line above being white; no line has been read.")
+    private static void promise10LineAboveIsWhiteAndNoneRead() {
+        DotLines x = given(10, "001 1000 10 1 0001 1");
+        x.read();
+        x.rewind();
+        due("the line read last", row(x), "..........");
+        due("black(3)", black(x, 3), 0);
+        due("change(-1)", x.change(-1), 0);
+        due("change(0)", x.change(0), -1);
+        due("look(4)", x.look(4), 0);
+        DotLines first = given(10, "1 0001 111");
+        first.read();
+        first.read();
+        first.rewind();
+        due("read()", first.read(), 1);
+        due("read() of a PASS", first.read(), -3);
+        DotLines empty = new DotLines(10);
+        empty.rewind();
+        due("look(9) of nothing", empty.look(9), 0);
+        due("read() of nothing", empty.read(), -1);
+        empty.rewind();
+        empty.give(0x80, 1);
+        due("read() of what came since", empty.read(), 1);
+        DotLines coded = withCoded("...###....");
+        coded.rewind();
+        due("OUTPUT stays", coded.look(1), 10);
+        due("code() below the line that was coded", code(coded), 5);
+    }
+
+    // Promise 11: read
+
+    @Sentence("A line is READ: 1, and it is the one above then; 0 at the END; -1 .. -6 for a FAULT.")
+    private static void promise11LineIsTheOneAboveThen() {
+        DotLines x = given(10, "001 1000 10 1" + "011 011 1" + "1 1 1" + "0001 1" + "1" + END + END);
+        String[] rows = {"...###....", "....###...", "....###...", "..........", ".........."};
+        int at = 0;
+        int[] took = {10, 7, 3, 5, 1};
+        for (int i = 0; i < rows.length; i++) {
+            at += took[i];
+            due("read()", x.read(), 1);
+            due("the line", row(x), rows[i]);
+            due("look(9)", x.look(9), at);
+            due("look(4)", x.look(4), i + 1);
+        }
+        due("read() at the END", x.read(), 0);
+        due("look(9)", x.look(9), at + 24);
+        due("look(4)", x.look(4), 5);
+        due("the line", row(x), "..........");
+    }
+
+    @Sentence("0 at the END; -1 .. -6 for a FAULT.")
+    private static void promise11AnswersForEachFault() {
+        String[] bits = {"0000 0000", "0000 0001", "0001 1111", "0111 1111", "0010 1000", "001 00110101 0000110111 1"};
+        for (int fault = 1; fault <= 6; fault++) {
+            readsFirst(10, bits[fault - 1], -fault, fault == 5 ? 3 : 0);
+        }
+        readsFirst(10, END + END, 0, 24);
+    }
+
+    @Sentence("Behind an END or a FAULT all further calls answer the same, until reading begins anew.")
+    private static void promise11FurtherCallsAnswerTheSame() {
+        String[] bits = {END + END, "0", "1 0000000", "1 1 0001", "1 1 011", "001 01000", "001 00110101 0000110111"};
+        for (int fault = 0; fault <= 6; fault++) {
+            DotLines x = below("...###....", bits[fault]);
+            due("read()", x.read(), -fault);
+            int at = x.look(9);
+            int lines = x.look(4);
+            for (int i = 0; i < 3; i++) {
+                due("read() again", x.read(), -fault);
+                due("look(9)", x.look(9), at);
+                due("look(4)", x.look(4), lines);
+                due("the line", row(x), "...###....");
+            }
+            x.rewind();
+            due("read() when rewound", x.read(), 1);
+            due("look(4)", x.look(4), 1);
+        }
+    }
+
+    @Sentence("until reading begins anew.")
+    private static void promise11UntilReadingBeginsAnew() {
+        DotLines x = withCoded("...###....");
+        due("read() of nothing", x.read(), -1);
+        due("turn(0)", turn(x, 0), 2);
+        due("read() behind turn()", x.read(), 1);
+        due("read()", x.read(), -1);
         x.wipe();
         x.give(0x80, 1);
-        x.read();
-        due("turn(-1)", turn(x, -1), THROWS);
-        due("turn(MIN)", turn(x, Integer.MIN_VALUE), THROWS);
-        due("turn of one more than there are", turn(x, bytes + 1), THROWS);
-        due("INPUT after it", x.look(3), 1);
-        due("lines read after it", x.look(4), 1);
-        due("turn(0)", turn(x, 0), bytes);
-        due("INPUT", x.look(3), bytes);
-        due("lines read", x.look(4), 0);
-        due("bit", x.look(9), 0);
-        due("OUTPUT stays", (x.look(1) + 7) / 8, bytes);
-        due("read()", x.read(), 1);
-        due("its dots", x.dots(0), 0b1111L << 57);
-        due("turn(9)", turn(x, 9), bytes - 9);
-        due("line read last", x.dots(0), 0);
-        due("read()", x.read(), 1);
-        due("turn of all", turn(x, bytes), 0);
+        due("read() behind wipe()", x.read(), 1);
         due("read()", x.read(), -1);
-        filledUp();
-    }
-
-    private static void filledUp() {
-        DotLines full = filled(524288 - 24);
-        close(full);
-        due("turn(0) of all that is possible", turn(full, 0), 65536);
-        due("give() behind it", full.give(0, 1), false);
-        due("turn(65533)", turn(full, 65533), 3);
-        due("read() of two ENDs", full.read(), 0);
-        due("bit", full.look(9), 24);
-        due("turn(65534)", turn(full, 65534), 2);
-        due("read() of what is a PASS there", full.read(), -3);
-    }
-
-    private static void wipe() {
-        promise = 9;
-        DotLines x = given(10, "001 1000 10 1 1");
-        x.read();
-        x.read();
-        x.wipe();
-        due("bytes", x.look(3), 0);
-        due("lines read", x.look(4), 0);
-        due("bit", x.look(9), 0);
-        due("dots(0)", x.dots(0), 0);
-        due("read()", x.read(), -1);
-        x.wipe();
-        giveBits(x, "0001 1");
-        due("read() of a PASS, the line above being white", x.read(), -3);
-    }
-
-    private static void rewind() {
-        promise = 10;
-        DotLines x = given(10, "001 1000 10 1 0001 1" + END + END);
-        for (int round = 0; round < 2; round++) {
-            due("read()", x.read(), 1);
-            due("dots(0)", x.dots(0), 0b111L << 58);
-            due("read()", x.read(), 1);
-            due("dots(0)", x.dots(0), 0);
-            due("read()", x.read(), 0);
-            due("lines read", x.look(4), 2);
-            x.rewind();
-            due("lines read", x.look(4), 0);
-            due("bit", x.look(9), 0);
-            due("INPUT", x.look(3), 5);
-        }
-        x.read();
         x.rewind();
-        due("dots(0)", x.dots(0), 0);
-        due("black(4)", black(x, 4), 0);
-        due("change(-1)", x.change(-1), 0);
-    }
-
-    private static void readLines() {
-        promise = 11;
-        reads(10, "1", 1, 1);
-        reads(10, "0000010 1", 1, 8);
-        reads(10, "001 00111 0000110111", 1, 18);
-        reads(100, "001 11011 00010101 0000110111", 1, 26);
-        reads(128, "001 11011 11011 00110101 0000110111", 1, 31);
-        reads(2624, "001 11011 000000011111 00110101 0000110111", 1, 38);
-        DotLines x = given(10, "001 1000 0000110111 001 0111 11 1" + "001 00110101 0011 1" + "1 0000010 001 1000 10 1");
-        due("read() with a run of 0 dots", x.read(), 1);
-        due("its dots", x.dots(0), 0b11L << 57);
-        due("read() with a white run of 0 dots", x.read(), 1);
-        due("its dots", x.dots(0), 0b11111L << 59);
-        due("read()", x.read(), 1);
-        due("its dots", x.dots(0), 0b1100011100L << 54);
-        due("lines read", x.look(4), 3);
-    }
-
-    private static void readFaults() {
-        promise = 11;
-        reads(10, "", -1, 0);
-        reads(10, "00000000", -1, 0);
-        reads(10, "010 00000", -1, 3);
-        reads(10, "010 0000000 000000", -2, 3);
-        reads(10, "010 " + END, -2, 3);
-        reads(10, END + END, 0, 24);
-        reads(10, END, -1, 12);
-        reads(10, END + "1", -2, 12);
-        reads(10, END + "00000001", -2, 12);
-        reads(10, "000000000000 0000", -2, 0);
-        reads(10, "0001", -3, 0);
-        reads(10, "011", -4, 0);
-        reads(10, "000011", -4, 0);
-        reads(10, "0000011", -4, 0);
-        reads(2, "0000010", -4, 0);
-        reads(2, "000010 1", 1, 7);
-        reads(10, "010 010", -4, 3);
-        reads(10, "001 11011", -5, 3);
-        reads(10, "001 01000", -5, 3);
-        reads(10, "001 00111 010", -5, 8);
-        reads(100, "001 11011 00010110", -5, 8);
-        reads(100, "001 11011 11011", -5, 8);
-        reads(10, "001 00110101 0000110111", -6, 0);
-        reads(10, "010 001 0000110111 00110101", -6, 3);
-        reads(10, "001 00000000", -2, 3);
-        reads(10, "001 1000 00000000 0", -2, 7);
-        reads(10, "001 00110", -1, 3);
-        reads(10, "001 00110101 00000", -1, 11);
-        readBehind("111111 001 0000000", 6, -1, 9);
-        readBehind("11111 001 00000000", 5, -2, 8);
-        readBehind("11111111 010 00000", 8, -1, 11);
-        readBehind("1111111 010 000000", 7, -2, 10);
-        readBehind("11111 00000000000", 5, -1, 5);
-        readBehind("1111 000000000000", 4, -2, 4);
-        readBehind("11111111", 8, -1, 8);
-        readBehind("001 1100 0011 0001", 1, -3, 11);
-        readBehind("001 1000 10 1 0001 1", 2, -1, 15);
-        readBehind("001 00110101 0011 1 010", 1, -4, 16);
-        readBehind("001 00110101 010 1 1 010", 1, -4, 16);
-    }
-
-    /** What read() answers behind some lines. */
-    private static void readBehind(String text, int lines, int answer, int at) {
-        DotLines x = given(10, text);
-        for (int i = 0; i < lines; i++) {
-            due("read() of line " + i + " of " + text, x.read(), 1);
-        }
-        long dots = x.dots(0);
-        due("read() behind the lines of " + text, x.read(), answer);
-        due("look(9) behind the lines of " + text, x.look(9), at);
-        due("lines read", x.look(4), lines);
-        due("line read last", x.dots(0), dots);
-    }
-
-    private static void readAgain() {
-        promise = 11;
-        DotLines x = given(10, END);
+        due("read() behind rewind()", x.read(), 1);
         due("read()", x.read(), -1);
-        giveBits(x, "00000001");
-        due("read() with more INPUT", x.read(), -1);
-        due("bit", x.look(9), 12);
-        x.rewind();
-        due("read() anew", x.read(), 0);
-        giveBits(x, "11111111");
-        due("read() behind the END", x.read(), 0);
-        due("bit", x.look(9), 24);
-        DotLines late = given(10, "11111111");
+        due("turn(9)", turn(x, 9), THROWS);
+        due("read() behind a turn() that threw", x.read(), -1);
+        x.clear();
+        due("read() behind clear()", x.read(), -1);
+        code(x);
+        close(x);
+        due("read() behind code() and close()", x.read(), -1);
+    }
+
+    @Sentence("(More INPUT does not change that.)")
+    private static void promise11MoreInputDoesNotChangeThat() {
+        DotLines x = new DotLines(10);
+        due("read() of nothing", x.read(), -1);
+        due("give()", x.give(-1, 8), true);
+        due("read()", x.read(), -1);
+        due("look(9)", x.look(9), 0);
+        due("look(4)", x.look(4), 0);
+        DotLines half = given(10, END);
+        due("read() of half an END", half.read(), -1);
+        giveBits(half, "0000 0001");
+        due("read() with the rest of it", half.read(), -1);
+        due("look(9)", half.look(9), 12);
+        half.rewind();
+        due("read() anew", half.read(), 0);
+        giveBits(half, "1111 1111");
+        due("read() behind the END", half.read(), 0);
+        due("look(9)", half.look(9), 24);
+        DotLines fault = given(10, "0001 1111");
+        due("read() of a PASS", fault.read(), -3);
+        fault.give(-1, 8);
+        due("read() with more", fault.read(), -3);
+        DotLines late = given(10, "1111 1111");
         for (int i = 0; i < 8; i++) {
-            late.read();
+            due("read()", late.read(), 1);
         }
-        giveBits(late, "11111111");
-        due("read() with INPUT that came in time", late.read(), 1);
+        giveBits(late, "1111 1111");
+        due("read() of what came in time", late.read(), 1);
     }
 
-    private static void blackDots() {
-        promise = 12;
-        DotLines x = given(10, "001 1000 10 1 0001 0001");
-        due("black(0) ahead of any line", black(x, 0), 0);
-        due("black(9) ahead of any line", black(x, 9), 0);
-        due("black(10) ahead of any line", black(x, 10), THROWS);
-        x.read();
-        int[] dots = {0, 0, 0, 1, 1, 1, 0, 0, 0, 0};
-        for (int i = 0; i < 10; i++) {
-            due("black(" + i + ")", black(x, i), dots[i]);
+    // Promise 12: black
+
+    @Sentence("Whether a dot of the line read last is black; false if there was none.")
+    private static void promise12WhetherADotIsBlack() {
+        for (String row : new String[] {"...###....", "#........#", "##########", "..........", "#", ".",
+            blackFromTo(130, 63, 65), blackFromTo(130, 62, 129), blackFromTo(130, 129, 130), blackFromTo(64, 63, 64),
+            blackFromTo(65, 64, 65), blackFromTo(10000, 9999, 10000)}) {
+            DotLines x = withCoded(row);
+            turn(x, 0);
+            due("read()", x.read(), 1);
+            for (int i = 0; i < row.length(); i++) {
+                due("black(" + i + ")", black(x, i), row.charAt(i) == '#' ? 1 : 0);
+            }
+            due("black() of one dot more", black(x, row.length()), THROWS);
         }
-        for (int i : new int[] {-1, 10, 63, 64, Integer.MIN_VALUE, Integer.MAX_VALUE}) {
-            due("black(" + i + ")", black(x, i), THROWS);
-        }
+    }
+
+    @Sentence("false if there was none.")
+    private static void promise12FalseIfThereWasNone() {
+        DotLines x = withCoded("##########");
+        allWhite(x, "of a new object");
+        x.give(0x10, 1);
         due("read() of a FAULT", x.read(), -3);
-        due("black(3) behind a FAULT", black(x, 3), 1);
-        DotLines wide = codedOnce(130, 63, 2, 129, 1);
-        turn(wide, 0);
-        wide.read();
-        int[] places = {62, 63, 64, 65, 128, 129};
-        int[] colours = {0, 1, 1, 0, 0, 1};
-        for (int i = 0; i < places.length; i++) {
-            due("black(" + places[i] + ")", black(wide, places[i]), colours[i]);
-        }
-        due("black(130)", black(wide, 130), THROWS);
+        allWhite(x, "behind a FAULT in the first line");
+        turn(x, 0);
+        allWhite(x, "ahead of any line");
+        due("read()", x.read(), 1);
+        due("black(0)", black(x, 0), 1);
+        x.rewind();
+        allWhite(x, "behind rewind()");
+        x.read();
+        turn(x, 0);
+        allWhite(x, "behind turn()");
+        x.read();
+        x.wipe();
+        allWhite(x, "behind wipe()");
     }
 
-    private static void dotParts() {
-        promise = 13;
-        DotLines x = codedOnce(130, 63, 2, 129, 1);
+    private static void allWhite(DotLines x, String when) {
+        for (int i = 0; i < x.look(0); i++) {
+            due("black(" + i + ") " + when, black(x, i), 0);
+        }
+        due("dots(0) " + when, x.dots(0), 0);
+        due("change(-1) " + when, x.change(-1), 0);
+    }
+
+    @Sentence("IndexOutOfBoundsException if it is no dot of a line.")
+    private static void promise12ThrowsIfNoDotOfALine() {
+        for (int width : new int[] {1, 10, 63, 64, 65, 10000}) {
+            DotLines x = withCoded("#".repeat(width));
+            for (int round = 0; round < 2; round++) {
+                due("black(0)", black(x, 0), round);
+                due("black() of the last dot", black(x, width - 1), round);
+                for (int i : new int[] {LEAST, -64, -1, width, width + 1, width + 64, 10000, GREATEST}) {
+                    due("black(" + i + ")", black(x, i), THROWS);
+                }
+                turn(x, 0);
+                due("read()", x.read(), 1);
+            }
+        }
+    }
+
+    // Promise 13: dots
+
+    @Sentence("Dots 64 * k .. 64 * k + 63 of the line read last as the bits of a long, black 1, the first one highest, 0 beyond the WIDTH.")
+    private static void promise13DotsAsBitsTheFirstHighest() {
+        DotLines x = withCoded(blackFromTo(130, 63, 65).substring(0, 129) + "#");
         due("dots(0) ahead of any line", x.dots(0), 0);
         turn(x, 0);
         x.read();
         due("dots(0)", x.dots(0), 1);
         due("dots(1)", x.dots(1), 1L << 63);
         due("dots(2)", x.dots(2), 1L << 62);
-        for (int k : new int[] {-1, 3, 157, 1 << 26, 1 << 25, Integer.MAX_VALUE, Integer.MIN_VALUE, -(1 << 26)}) {
-            due("dots(" + k + ")", x.dots(k), 0);
-        }
-        DotLines full = codedOnce(100, 0, 100);
-        turn(full, 0);
-        full.read();
-        due("dots(0)", full.dots(0), -1L);
-        due("dots(1)", full.dots(1), -1L << 28);
+        DotLines first = withCoded("#.#.......");
+        turn(first, 0);
+        first.read();
+        due("dots(0)", first.dots(0), 0b101L << 61);
     }
 
-    private static void changes() {
-        promise = 14;
-        DotLines x = codedOnce(130, 0, 2, 63, 1, 129, 1);
-        due("change(-1) ahead of any line", x.change(-1), 0);
-        due("change(0) ahead of any line", x.change(0), -1);
+    @Sentence("0 beyond the WIDTH.")
+    private static void promise13ZeroBeyondTheWidth() {
+        for (int width : new int[] {1, 2, 10, 63, 64, 65, 100, 127, 128, 129, 9984, 9985, 10000}) {
+            DotLines x = withCoded("#".repeat(width));
+            turn(x, 0);
+            x.read();
+            int last = (width - 1) / 64;
+            due("the last part of " + width, x.dots(last), -1L << (63 - (width - 1) % 64));
+            due("the one ahead of it", x.dots(last - 1), last == 0 ? 0 : -1);
+            for (int k : new int[] {LEAST, -2, -1, last + 1, last + 2, 157, 158, GREATEST}) {
+                due("dots(" + k + ") of " + width, x.dots(k), 0);
+            }
+            for (int k : WRAPS) {
+                due("dots(" + k + ") of " + width, x.dots(k), 0);
+            }
+        }
+    }
+
+    // Promise 14: change
+
+    @Sentence("Of the line read last (a white one ahead of any): the i-th change, from 0 on, that is a dot; how many, if i is -1. NONE if there is none such.")
+    private static void promise14ChangesFrom0On() {
+        String row = "##" + blackFromTo(128, 61, 62).substring(0, 127) + "#";
+        DotLines x = withCoded(row);
         turn(x, 0);
         x.read();
         int[] places = {0, 2, 63, 64, 129};
@@ -569,60 +924,132 @@ public final class PromisesTest {
         for (int i = 0; i < places.length; i++) {
             due("change(" + i + ")", x.change(i), places[i]);
         }
-        for (int i : new int[] {-2, 5, 6, 130, Integer.MIN_VALUE, Integer.MAX_VALUE}) {
-            due("change(" + i + ")", x.change(i), -1);
-        }
-        DotLines joined = given(10, "001 1000 0000110111 1");
-        joined.read();
-        due("change(-1) with a run of 0 dots", joined.change(-1), 0);
+        due("change(5)", x.change(5), -1);
     }
 
-    private static void looks() {
-        promise = 15;
-        DotLines x = codedOnce(20, 5, 3);
-        code(x);
-        paintAll(x, 18, 1);
-        code(x);
-        int[] open = {20, 10 + 5 + 10, 0, 0, 0, 3, 1, 5, 1, 0};
-        for (int which = 0; which < 10; which++) {
-            due("look(" + which + ")", x.look(which), open[which]);
-        }
-        close(x);
+    @Sentence("(a white one ahead of any)")
+    private static void promise14WhiteLineAheadOfAny() {
+        DotLines x = withCoded("##########");
+        due("change(-1) ahead of any", x.change(-1), 0);
+        due("change(0) ahead of any", x.change(0), -1);
         turn(x, 0);
         x.read();
-        x.read();
-        int[] closed = {20, 56, 1, 7, 2, 3, 1, 5, 1, 15};
-        for (int which = 0; which < 10; which++) {
-            due("look(" + which + ")", x.look(which), closed[which]);
+        due("change(-1)", x.change(-1), 1);
+        due("change(0)", x.change(0), 0);
+        x.rewind();
+        due("change(-1) behind rewind()", x.change(-1), 0);
+        due("change(0) behind rewind()", x.change(0), -1);
+    }
+
+    @Sentence("the i-th change, from 0 on, that is a dot;")
+    private static void promise14ThatIsADot() {
+        String[] rows = {"..........", "##########", ".........#", "#.........", "#.#.#.#.#.", ".#.#.#.#.#", "#", ".",
+            "#".repeat(64), ".".repeat(63) + "#", "#".repeat(65), ".".repeat(64) + "#"};
+        int[] counts = {0, 1, 1, 2, 10, 9, 1, 0, 1, 1, 1, 1};
+        for (int i = 0; i < rows.length; i++) {
+            DotLines x = withCoded(rows[i]);
+            turn(x, 0);
+            x.read();
+            due("change(-1) of " + rows[i], x.change(-1), counts[i]);
+            due("the last one", x.change(counts[i] - 1) < rows[i].length(), true);
+            due("one more", x.change(counts[i]), -1);
         }
-        for (int which : new int[] {-1, 10, 11, Integer.MIN_VALUE, Integer.MAX_VALUE}) {
-            due("look(" + which + ")", x.look(which), -1);
+        DotLines joined = below("..........", "001 1000 0000110111 001 0111 11 1" + "001 00110101 0011 1");
+        joined.read();
+        due("change(-1) with a RUN of 0 dots", joined.change(-1), 2);
+        due("change(0)", joined.change(0), 5);
+    }
+
+    @Sentence("NONE if there is none such.")
+    private static void promise14NoneIfThereIsNoneSuch() {
+        DotLines x = withCoded("...###....");
+        for (int round = 0; round < 2; round++) {
+            for (int i : new int[] {LEAST, -3, -2, 2, 3, 9, 10, 11, 10000, GREATEST}) {
+                due("change(" + i + ")", x.change(i), -1);
+            }
+            for (int i : WRAPS) {
+                due("change(" + i + ")", x.change(i), -1);
+            }
+            turn(x, 0);
+            x.read();
+        }
+        due("change(1)", x.change(1), 6);
+        DotLines most = withCoded("#.".repeat(5000));
+        turn(most, 0);
+        most.read();
+        due("change(-1) of the most changes", most.change(-1), 10000);
+        due("change(9999)", most.change(9999), 9999);
+        due("change(10000)", most.change(10000), -1);
+    }
+
+    // Promise 15: look
+
+    @Sentence("which 0: WIDTH, 1: bits of OUTPUT, 2: 1 if it is closed, 3: bytes of INPUT, 4: lines read, 5: lines coded, 6: words of OUTPUT that were PASS, 7: SHIFT, 8: ACROSS")
+    private static void promise15EachWhich() {
+        DotLines x = withCoded(".....###............", "....................", "..................#.");
+        looks(x, 20, 10 + 5 + 10, 0, 0, 0, 3, 1, 5, 1, 0);
+        due("close()", close(x), 7);
+        looks(x, 20, 56, 1, 0, 0, 3, 1, 5, 1, 0);
+        due("turn(0)", turn(x, 0), 7);
+        looks(x, 20, 56, 1, 7, 0, 3, 1, 5, 1, 0);
+        x.read();
+        x.read();
+        looks(x, 20, 56, 1, 7, 2, 3, 1, 5, 1, 15);
+        x.give(0, 2);
+        looks(x, 20, 56, 1, 9, 2, 3, 1, 5, 1, 15);
+    }
+
+    private static void looks(DotLines x, int... want) {
+        for (int which = 0; which < 10; which++) {
+            due("look(" + which + ")", x.look(which), want[which]);
         }
     }
 
-    public static void main(String[] args) {
-        newObject();
-        paint();
-        codeSteps();
-        codeRuns();
-        codeRefused();
-        closeOutput();
-        clearOutput();
-        outParts();
-        give();
-        turnOver();
-        wipe();
-        rewind();
-        readLines();
-        readFaults();
-        readAgain();
-        blackDots();
-        dotParts();
-        changes();
-        looks();
-        System.out.println(wrong == 0 ? "all promises hold" : wrong + " answers are not as due");
-        if (wrong != 0) {
-            System.exit(1);
+    @Sentence("(5 to 8 since the last clear())")
+    private static void promise15SinceTheLastClear() {
+        DotLines x = withCoded(".....###............", "....................", "..................#.");
+        x.clear();
+        looks(x, 20, 0, 0, 0, 0, 0, 0, 0, 0, 0);
+        paintRow(x, ".....###............");
+        code(x);
+        looks(x, 20, 10, 0, 0, 0, 1, 0, 1, 1, 0);
+        close(x);
+        due("lines when closed", x.look(5), 1);
+        due("SHIFTs when closed", x.look(7), 1);
+        code(x);
+        due("lines when refused", x.look(5), 1);
+        DotLines read = withCoded("...###....");
+        turn(read, 0);
+        read.read();
+        read.wipe();
+        read.rewind();
+        due("lines coded behind wipe() and rewind()", read.look(5), 1);
+    }
+
+    @Sentence("9: at which bit reading goes on (behind a line, behind the END; at a FAULT the first bit of the word that it is about, for 6 that of ACROSS, for 1 of the word that is not whole).")
+    private static void promise15WhereReadingGoesOn() {
+        reads("..........", "010 1 1", 1, 4, ".........#");
+        reads("..........", END + END + "1", 0, 24, "..........");
+        faults("..........", "010 00000", 1, 3);
+        faults("..........", "010", 1, 3);
+        faults("..........", "010 0000000", 2, 3);
+        faults("..........", END + "1", 2, 12);
+        faults("..........", "010 0001", 3, 3);
+        faults("..........", "010 010", 4, 3);
+        faults("..........", "001 1000 000101", 5, 7);
+        faults(".".repeat(100), "001 11011 11011", 5, 8);
+        faults("..........", "010 001 0000110111 00110101", 6, 3);
+        faults("..........", "001 1000 0", 1, 7);
+        faults("..........", END + "0", 1, 12);
+    }
+
+    @Sentence("NONE for any other which.")
+    private static void promise15NoneForAnyOther() {
+        DotLines x = withCoded("...###....");
+        for (int which : new int[] {LEAST, -2, -1, 10, 11, 100, GREATEST}) {
+            due("look(" + which + ")", x.look(which), -1);
         }
+        due("look(0)", x.look(0), 10);
+        due("look(9)", x.look(9), 0);
     }
 }
