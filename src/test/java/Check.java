@@ -237,8 +237,9 @@ abstract class Check {
             code(x);
         }
         due("room for lines of one bit", x.look(1) < bits - 64, true);
-        for (int i = x.look(1); i < bits; i++) {
-            code(x);
+        boolean grows = true;
+        while (x.look(1) < bits && grows) {
+            grows = code(x) == 1;
         }
         due("bits", x.look(1), bits);
         return x;

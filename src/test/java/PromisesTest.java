@@ -1,3 +1,5 @@
+import java.util.function.Consumer;
+
 /** The sentences of promises 1 to 15, each with a test named by its promise: ordinary inputs, edges, wrong inputs. */
 public final class PromisesTest extends Check {
     /** Ints of which a multiple by 8 or 64 wraps round to what might look like a fine one. */
@@ -1051,5 +1053,101 @@ public final class PromisesTest extends Check {
         }
         due("look(0)", x.look(0), 10);
         due("look(9)", x.look(9), 0);
+    }
+
+    // The two ways go side by side
+
+    @Sentence("OUTPUT are the bits coded so far, INPUT those that are read;")
+    private static void promise07To15CodingStaysAsItIs() {
+        codingStays("give()", x -> x.give(-1, 8));
+        codingStays("turn()", x -> turn(x, 0));
+        codingStays("turn(), read()", x -> {
+            turn(x, 0);
+            x.read();
+            due("the line", row(x), "..##......");
+        });
+        codingStays("wipe()", x -> x.wipe());
+        codingStays("rewind()", x -> x.rewind());
+        codingStays("read() of nothing", x -> x.read());
+        codingStays("read() of a line", x -> {
+            x.give(0x58, 1);
+            x.read();
+            due("the line", row(x), ".........#");
+        });
+        codingStays("read() of the END", x -> {
+            x.give(0x001001, 3);
+            due("read()", x.read(), 0);
+        });
+        codingStays("read() of a FAULT", x -> {
+            x.give(0x10, 1);
+            due("read()", x.read(), -3);
+        });
+        codingStays("what asks", x -> {
+            x.out(0);
+            black(x, 3);
+            x.dots(0);
+            x.change(-1);
+            x.look(1);
+        });
+    }
+
+    /** A line half made below another one is coded as it would be without the calls. */
+    private static void codingStays(String what, Consumer<DotLines> calls) {
+        DotLines x = withCoded("..##......");
+        int before = x.look(1);
+        x.paint(2, 1, true);
+        calls.accept(x);
+        due("look(1) behind " + what, x.look(1), before);
+        due("look(5) behind " + what, x.look(5), 1);
+        due("paint() behind " + what, x.paint(3, 2, true), true);
+        due("code() behind " + what, code(x), 5);
+        dueBits("its bits behind " + what, bits(x, before), "1 011 1");
+        due("close() behind " + what, close(x), (before + 5 + 24 + 7) / 8);
+    }
+
+    @Sentence("OUTPUT are the bits coded so far, INPUT those that are read;")
+    private static void promise02To06ReadingStaysAsItIs() {
+        readingStays("paint()", x -> x.paint(0, 10, true));
+        readingStays("code()", x -> {
+            x.paint(0, 5, true);
+            code(x);
+        });
+        readingStays("close()", x -> close(x));
+        readingStays("clear()", x -> x.clear());
+        readingStays("clear(), code()", x -> {
+            x.clear();
+            x.paint(7, 1, true);
+            code(x);
+            code(x);
+        });
+        readingStays("code() that throws", x -> {
+            close(x);
+            due("code()", code(x), THROWS);
+        });
+        readingStays("what asks", x -> {
+            x.out(0);
+            black(x, 3);
+            x.dots(0);
+            x.change(-1);
+            x.look(1);
+        });
+    }
+
+    /** A picture half read goes on as it would without the calls. */
+    private static void readingStays(String what, Consumer<DotLines> calls) {
+        DotLines x = withCoded("..##......", "..###.....", "..####....");
+        turn(x, 0);
+        x.read();
+        int bytes = x.look(3);
+        int at = x.look(9);
+        calls.accept(x);
+        due("look(3) behind " + what, x.look(3), bytes);
+        due("look(4) behind " + what, x.look(4), 1);
+        due("look(9) behind " + what, x.look(9), at);
+        due("the line behind " + what, row(x), "..##......");
+        due("read() behind " + what, x.read(), 1);
+        due("the line below", row(x), "..###.....");
+        due("read()", x.read(), 1);
+        due("the line below that", row(x), "..####....");
     }
 }
