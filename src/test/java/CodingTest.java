@@ -6,6 +6,26 @@ public final class CodingTest extends Check {
 
     // lines and changes
 
+    @Sentence("LINES have as many dots as the WIDTH, each white or black;")
+    private static void linesHaveAsManyDotsAsTheWidth() {
+        for (int width : new int[] {1, 2, 63, 64, 65, 9999, 10000}) {
+            dueBits("all dots black, of " + width, coded("#".repeat(width)),
+                width <= 3 ? Tables.SHIFTS[3 - width] + "1" : "001 00110101" + Tables.run(width, true));
+            dueBits("the last dot black, of " + width, coded(blackFromTo(width, width - 1, width)), "010 1");
+        }
+    }
+
+    @Sentence("An object is used for at most 512 calls after it has been made;")
+    private static void call512Answers() {
+        DotLines x = new DotLines(10000);
+        for (int i = 0; i < 255; i++) {
+            x.paint(4900 + i, 200, true);
+            due("code() of line " + i, code(x), i == 0 ? 3 + (12 + 12 + 8) + (12 + 6) + 1 : 3 + 3 + 1);
+        }
+        due("look(5), call 511", x.look(5), 255);
+        due("close(), call 512", close(x), (54 + 254 * 7 + 24 + 7) / 8);
+    }
+
     @Sentence("the line above the first one is white.")
     private static void lineAboveTheFirstIsWhite() {
         dueBits("a white line", coded(".........."), "1");
@@ -239,6 +259,35 @@ public final class CodingTest extends Check {
         }
         // of 0 dots there is one below a line that goes on in black
         dueBits("black of 0", coded("....######", ".........."), "001" + Tables.run(10, false) + Tables.run(0, true));
+    }
+
+    @Sentence("The BLOCKS 64, 128, .. 1728 of white: 11011 10010 010111 0110111 00110110 00110111 01100100")
+    private static void everyBlockOfWhite() {
+        for (int i = 0; i < 27; i++) {
+            int n = 64 * (i + 1);
+            dueBits("white of " + n, coded(blackFromTo(2700, n, n + 10)),
+                "001" + Tables.WHITE_BLOCKS[i] + "00110101" + "0000100" + "1");
+        }
+    }
+
+    @Sentence("of black: 0000001111 000011001000 000011001001 000001011011 000000110011 000000110100 000000110101")
+    private static void everyBlockOfBlack() {
+        for (int i = 0; i < 27; i++) {
+            int n = 64 * (i + 1);
+            dueBits("black of " + n, coded(blackFromTo(2700, 10, 10 + n)),
+                "001" + "00111" + Tables.BLACK_BLOCKS[i] + "0000110111" + "1");
+        }
+    }
+
+    @Sentence("1792, 1856, .. 2560 of both: 00000001000 00000001100 00000001101 000000010010 000000010011 000000010100")
+    private static void everyBlockOfBoth() {
+        for (int i = 0; i < 13; i++) {
+            int n = 1792 + 64 * i;
+            dueBits("white of " + n, coded(blackFromTo(2700, n, n + 10)),
+                "001" + Tables.LONG_BLOCKS[i] + "00110101" + "0000100" + "1");
+            dueBits("black of " + n, coded(blackFromTo(2700, 10, 10 + n)),
+                "001" + "00111" + Tables.LONG_BLOCKS[i] + "0000110111" + "1");
+        }
     }
 
     @Sentence("OUTPUT are the bits coded so far, INPUT those that are read; each has at most 65536 bytes, bits from the highest of each byte on.")
