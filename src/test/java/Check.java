@@ -17,25 +17,26 @@ abstract class Check {
 
     private static int wrong = 0;
     private static String test = "";
+    private static String document;
 
     /** Runs every method that has a Sentence, and ends with exit code 1 if an answer was not as due. */
     static void runTests(Class<?> tests) throws IOException, IllegalAccessException {
         Method[] methods = tests.getDeclaredMethods();
         Arrays.sort(methods, Comparator.comparing(Method::getName));
-        Path document = Path.of("../shared/DOC.md");
-        String words = Files.isReadable(document) ? Files.readString(document) : null;
+        Path path = Path.of("../shared/DOC.md");
+        document = Files.isReadable(path) ? Files.readString(path) : null;
         int count = 0;
         for (Method m : methods) {
             Sentence sentence = m.getAnnotation(Sentence.class);
             if (sentence != null) {
                 test = m.getName() + " (\"" + sentence.value() + "\")";
-                due("that the sentence stands in DOC.md", words == null || words.contains(sentence.value()), true);
+                standsInDocument(sentence.value());
                 m.setAccessible(true);
                 runTest(m);
                 count++;
             }
         }
-        System.out.println(count + " tests" + (words == null ? ", DOC.md not found" : "")
+        System.out.println(count + " tests" + (document == null ? ", DOC.md not found" : "")
             + (wrong == 0 ? ": all answers are as due" : ": " + wrong + " answers are not as due"));
         if (wrong != 0 || count == 0) {
             System.exit(1);
@@ -49,6 +50,10 @@ abstract class Check {
             wrong++;
             System.out.println(test + ": ended with " + e.getCause());
         }
+    }
+
+    static void standsInDocument(String words) {
+        due("that \"" + words + "\" stands in DOC.md", document == null || document.contains(words), true);
     }
 
     static void due(String what, Object got, Object want) {

@@ -235,6 +235,15 @@ public final class CodingTest extends Check {
         dueBits("two ENDs", bits(x, 0), "000000000001 000000000001");
     }
 
+    @Sentence("The RESTS 0, 1, .. 63 of white:")
+    private static void theTestsHaveTheDocumentsWords() {
+        standsInDocument("The RESTS 0, 1, .. 63 of white: " + String.join(" ", Tables.WHITE_RESTS) + "\n");
+        standsInDocument("of black: " + String.join(" ", Tables.BLACK_RESTS) + "\n");
+        standsInDocument("The BLOCKS 64, 128, .. 1728 of white: " + String.join(" ", Tables.WHITE_BLOCKS) + "\n");
+        standsInDocument("of black: " + String.join(" ", Tables.BLACK_BLOCKS) + "\n");
+        standsInDocument("1792, 1856, .. 2560 of both: " + String.join(" ", Tables.LONG_BLOCKS) + "\n");
+    }
+
     @Sentence("The RESTS 0, 1, .. 63 of white: 00110101 000111 0111 1000 1011 1100 1110 1111 10011 10100")
     private static void everyWordOfWhite() {
         DotLines x = null;
